@@ -1,0 +1,131 @@
+import java.io.IOException;
+import java.lang.reflect.Constructor;
+import java.lang.reflect.Field;
+import java.lang.reflect.Method;
+import java.lang.reflect.Modifier;
+import java.nio.file.Files;
+import java.nio.file.Path;
+import java.util.Arrays;
+import java.util.Set;
+import java.util.TreeSet;
+
+/** The public face, and the rules of LANGUAGE.md that can be seen from outside or by words. */
+final class FaceTests {
+    private static final Set<String> METHODS = new TreeSet<>(Arrays.asList(
+        "int table(int,int)", "int set(int,int,int,int)", "int at(int,int,int)", "int look(int,int)",
+        "int drop()", "long worth(int,int,int)", "int low(int,boolean)", "int count(int,int)",
+        "int product(int,int)", "int sum(int,int)", "int part(int,int,int)", "int turn(int,int)",
+        "int same(int,int)", "int net(int)", "int step(int,int,int,int)", "int back(int)",
+        "int made(int)", "int families(int,int,int)", "long weight(int,int,int)",
+        "int family(int,int,int,int)", "int unnet()", "int tell(int,int)", "int changes(int)",
+        "int band(int,int)", "int make(int)", "long making(int,int)", "int lay(int,int)",
+        "int tear()", "int row(int)", "int copy(int,int,int)", "int status(int)"));
+
+    private FaceTests() {
+    }
+
+    static void all() {
+        Check.test("face: constants", FaceTests::constants);
+        Check.test("face: methods", FaceTests::methods);
+        Check.test("face: class, constructor, fields, classes inside", FaceTests::members);
+        Check.test("language: words that are not allowed", FaceTests::words);
+    }
+
+    private static void constants() {
+        Check.same("NONE", -1, WellTables.NONE);
+        Check.same("MISSING", -2, WellTables.MISSING);
+        Check.same("BEYOND", -3, WellTables.BEYOND);
+        Check.same("BELOW", -4, WellTables.BELOW);
+        Check.same("KIND", -5, WellTables.KIND);
+        Check.same("COPY", -6, WellTables.COPY);
+        Check.same("NO", -7, WellTables.NO);
+        Check.same("FULL", -8, WellTables.FULL);
+    }
+
+    private static void methods() {
+        Set<String> found = new TreeSet<>();
+        Set<String> publicNames = new TreeSet<>();
+        for (Method method : WellTables.class.getDeclaredMethods()) {
+            if (Modifier.isPublic(method.getModifiers())) {
+                found.add(told(method));
+                publicNames.add(method.getName());
+            }
+        }
+        Check.holds("public methods are " + found, found.equals(METHODS));
+        noOtherBearsAPublicName(WellTables.class, publicNames);
+        for (Class<?> inside : WellTables.class.getDeclaredClasses()) {
+            noOtherBearsAPublicName(inside, publicNames);
+        }
+    }
+
+    private static void noOtherBearsAPublicName(Class<?> of, Set<String> publicNames) {
+        for (Method method : of.getDeclaredMethods()) {
+            boolean isFace = of == WellTables.class && Modifier.isPublic(method.getModifiers());
+            if (isFace) {
+                continue;
+            }
+            Check.holds(method + " bears a public name", !publicNames.contains(method.getName()));
+            if (of == WellTables.class) {
+                Check.holds(method + " is not private", Modifier.isPrivate(method.getModifiers()));
+            }
+        }
+    }
+
+    private static String told(Method method) {
+        StringBuilder text = new StringBuilder(method.getReturnType().getName());
+        text.append(' ').append(method.getName()).append('(');
+        String between = "";
+        for (Class<?> type : method.getParameterTypes()) {
+            text.append(between).append(type.getName());
+            between = ",";
+        }
+        Check.holds(method + " is static", !Modifier.isStatic(method.getModifiers()));
+        return text.append(')').toString();
+    }
+
+    private static void members() {
+        int modifiers = WellTables.class.getModifiers();
+        Check.holds("public and final", Modifier.isPublic(modifiers) && Modifier.isFinal(modifiers));
+        Constructor<?>[] constructors = WellTables.class.getDeclaredConstructors();
+        Check.same("constructors", 1, constructors.length);
+        Check.holds("a public one", Modifier.isPublic(constructors[0].getModifiers()));
+        Check.same("its parameters", 0, constructors[0].getParameterCount());
+        int publicFields = 0;
+        for (Field field : WellTables.class.getDeclaredFields()) {
+            int how = field.getModifiers();
+            if (Modifier.isPublic(how)) {
+                publicFields++;
+            } else {
+                Check.holds(field + " is private", Modifier.isPrivate(how));
+            }
+            Check.holds(field + " is static and not final", !Modifier.isStatic(how) || Modifier.isFinal(how));
+        }
+        Check.same("public constants", 8, publicFields);
+        for (Class<?> inside : WellTables.class.getDeclaredClasses()) {
+            Check.holds(inside + " is static", Modifier.isStatic(inside.getModifiers()));
+        }
+    }
+
+    private static void words() {
+        String source = sourceWithoutComments();
+        for (String word : new String[] {"throw", "throws", "try", "catch", "synchronized", "assert", "->", "::"}) {
+            String pattern = Character.isLetter(word.charAt(0)) ? "(?s).*\\b" + word + "\\b.*" : null;
+            boolean isThere = pattern == null ? source.contains(word) : source.matches(pattern);
+            Check.holds("the source has " + word, !isThere);
+        }
+        for (String line : source.split("\n")) {
+            if (line.startsWith("import")) {
+                Check.holds(line, line.equals("import java.util.Arrays;"));
+            }
+        }
+    }
+
+    private static String sourceWithoutComments() {
+        try {
+            String all = Files.readString(Path.of("src/main/java/WellTables.java"));
+            return all.replaceAll("(?s)/\\*.*?\\*/", "").replaceAll("//[^\n]*", "");
+        } catch (IOException thrown) {
+            throw new IllegalStateException(thrown);
+        }
+    }
+}
