@@ -268,10 +268,10 @@ final class NetTests {
     private static void family() {
         WellTables x = new WellTables();
         x.net(3);
-        x.step(0, UP, 0, 1);
-        x.step(0, ON, 0, 1);
-        x.step(0, UP, 0, 1);
-        x.step(0, DOWN, 0, 1);
+        x.step(0, UP, 0, 9);
+        x.step(0, ON, 0, 8);
+        x.step(0, UP, 0, 7);
+        x.step(0, DOWN, 0, 6);
         // From 0 to 0: stay, stay (then DOWN does nothing); stay, go, down; go, -, down.
         Check.same("families", 3, x.families(0, 1, 1));
         int[][] lines = {{1, 1, 1, 1, 1}, {1, 1, 1, 2, 1}, {1, 2, 2, 2, 1}};
@@ -288,6 +288,7 @@ final class NetTests {
             }
         }
         Bench.refusals(x, 0, 0, 0, 0, 0, 0, 0);
+        Check.same("their weights don't make more", Bench.BEYOND, x.family(0, 1, 1, 3));
     }
 
     private static void familyOfTwo() {

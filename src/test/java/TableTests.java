@@ -331,6 +331,13 @@ final class TableTests {
         Check.same("lower rows first", 32 * 5 + 3, x.low(t, false));
         int wide = Bench.table(x, Bench.row(1, 1, 1, 1, -1));
         Check.same("the last column", 32 + 16, x.low(wide, false));
+        x.set(wide, 0, 0, -1);
+        Check.same("the first column", 32 + 1, x.low(wide, false));
+        Check.same("the first column, strict", 32 + 1, x.low(wide, true));
+        int high = x.turn(wide, 0);
+        Check.same("the first row", 32 + 1, x.low(high, false));
+        int last = x.turn(x.part(wide, 1, 30), 0);
+        Check.same("the last row", 32 * 8 + 1, x.low(last, false));
     }
 
     private static void count() {
@@ -366,7 +373,12 @@ final class TableTests {
         Check.same("just -1000", 6, x.product(c, d));
         Check.same("at", -1000, x.at(6, 0, 0));
         Check.same("the first stays", 30, x.at(c, 0, 1));
-        Check.same("of itself", 7, x.product(b, x.turn(b, 0)) - 1);
+        Check.same("turned", 7, x.turn(a, 0));
+        Check.same("more rows than columns", 8, x.product(7, a));
+        Bench.holdsNumbers(x, 8, Bench.row(17, 22, 27), Bench.row(22, 29, 36), Bench.row(27, 36, 45));
+        int one = Bench.table(x, Bench.row(-3));
+        Check.same("of itself", 10, x.product(one, one));
+        Bench.holdsNumbers(x, 10, Bench.row(9));
     }
 
     private static void productWrong() {
@@ -398,6 +410,9 @@ final class TableTests {
         Check.same("MADE", 3, x.look(2, 0));
         Check.same("of itself", 3, x.sum(a, a));
         Bench.holdsNumbers(x, 3, Bench.row(2, -4, 1000), Bench.row(8, 10, -1000));
+        int high = Bench.table(x, Bench.row(1), Bench.row(2), Bench.row(3));
+        Check.same("more rows than columns", 5, x.sum(high, high));
+        Bench.holdsNumbers(x, 5, Bench.row(2), Bench.row(4), Bench.row(6));
         Bench.holdsNumbers(x, a, Bench.row(1, -2, 500), Bench.row(4, 5, -500));
     }
 
@@ -434,6 +449,12 @@ final class TableTests {
         Check.same("MADE", 3, x.look(3, 0));
         Check.same("a row", 4, x.part(a, 2, 5));
         Bench.holdsNumbers(x, 4, Bench.row(4, 6));
+        int wide = Bench.table(x, Bench.row(1, 2, 3, 4, 5));
+        Check.same("of a wide one", 6, x.part(wide, 1, 25));
+        Bench.holdsNumbers(x, 6, Bench.row(1, 4, 5));
+        int high = x.turn(wide, 0);
+        Check.same("of a high one", 8, x.part(high, 25, 1));
+        Bench.holdsNumbers(x, 8, Bench.row(1), Bench.row(4), Bench.row(5));
     }
 
     private static void partWrong() {
@@ -463,6 +484,13 @@ final class TableTests {
         Check.same("MADE", 3, x.look(3, 0));
         Check.same("turned back", 4, x.turn(1, 0));
         Check.same("same", 1, x.same(4, a));
+        for (int t = 1; t <= 4; t++) {
+            Check.same("MADE", 3, x.look(t, 0));
+        }
+        Check.same("a high one", 5, x.turn(1, 1));
+        Bench.holdsNumbers(x, 5, Bench.row(6, 3), Bench.row(5, 2), Bench.row(4, 1));
+        Check.same("a high one", 6, x.turn(1, 2));
+        Bench.holdsNumbers(x, 6, Bench.row(3, 6), Bench.row(2, 5), Bench.row(1, 4));
         Bench.holdsNumbers(x, a, Bench.row(1, 2, 3), Bench.row(4, 5, 6));
     }
 
@@ -487,6 +515,9 @@ final class TableTests {
         Check.same("itself", 1, x.same(b, b));
         x.set(b, 1, 2, 7);
         Check.same("the last differs", 0, x.same(a, b));
+        x.set(b, 1, 2, 6);
+        x.set(b, 0, 0, 0);
+        Check.same("the first differs", 0, x.same(a, b));
         int c = x.table(1, 2);
         int d = x.table(2, 1);
         int e = x.table(1, 3);
@@ -496,7 +527,10 @@ final class TableTests {
         Check.same("unlike rows", 0, x.same(c, 5));
         Check.same("another KIND", 6, x.turn(c, 1));
         Check.same("same numbers", 1, x.same(c, 6));
-        Check.same("BEYOND", Bench.BEYOND, x.same(a, 7));
+        int high = Bench.table(x, Bench.row(1), Bench.row(2), Bench.row(3));
+        int higher = Bench.table(x, Bench.row(1), Bench.row(2), Bench.row(4));
+        Check.same("the last row differs", 0, x.same(high, higher));
+        Check.same("BEYOND", Bench.BEYOND, x.same(a, 9));
         Check.same("BEYOND", Bench.BEYOND, x.same(-1, a));
         Bench.refusals(x, 0, 2, 0, 0, 0, 0, 0);
     }
