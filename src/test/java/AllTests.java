@@ -11,6 +11,12 @@ public final class AllTests {
         NetTests.all();
         SignTests.all();
         RowTests.all();
+        TermEdges.all();
+        TableEdges.all();
+        NetEdges.all();
+        SignEdges.all();
+        RowEdges.all();
+        SweepTests.all();
         ModelTests.all();
         int failed = failedBefore + Check.failed();
         System.out.println((passedBefore + Check.passed()) + " passed, " + failed + " failed");
