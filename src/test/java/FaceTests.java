@@ -5,9 +5,13 @@ import java.lang.reflect.Method;
 import java.lang.reflect.Modifier;
 import java.nio.file.Files;
 import java.nio.file.Path;
+import java.util.ArrayList;
 import java.util.Arrays;
+import java.util.List;
 import java.util.Set;
 import java.util.TreeSet;
+import java.util.regex.Matcher;
+import java.util.regex.Pattern;
 
 /** The public face, and the rules of LANGUAGE.md that can be seen from outside or by words. */
 final class FaceTests {
@@ -29,6 +33,10 @@ final class FaceTests {
         Check.test("face: methods", FaceTests::methods);
         Check.test("face: class, constructor, fields, classes inside", FaceTests::members);
         Check.test("language: words that are not allowed", FaceTests::words);
+        Check.test("language, rules 3 and 4: the library", FaceTests::library);
+        Check.test("language, rule 5: static fields", FaceTests::staticFields);
+        Check.test("language, rule 11: sizes", FaceTests::sizes);
+        Check.test("language, rule 12: no call makes an object", FaceTests::noNewObjects);
     }
 
     private static void constants() {
@@ -117,6 +125,81 @@ final class FaceTests {
             if (line.startsWith("import")) {
                 Check.holds(line, line.equals("import java.util.Arrays;"));
             }
+        }
+    }
+
+    private static void library() {
+        Set<String> allowed = new TreeSet<>(Arrays.asList("Arrays.fill", "Integer.bitCount", "Math.abs", "Math.max",
+            "Math.min", "System.arraycopy"));
+        Matcher called = Pattern.compile("\\b([A-Z]\\w*\\.\\w+)\\(").matcher(sourceWithoutComments());
+        while (called.find()) {
+            Check.holds(called.group(1) + " is called", allowed.contains(called.group(1)));
+        }
+        for (String word : new String[] {"double", "float", "String", "Object", "instanceof", "List", "\""}) {
+            Check.holds("the source has " + word, !sourceWithoutComments().contains(word));
+        }
+    }
+
+    private static List<Class<?>> classes() {
+        List<Class<?>> all = new ArrayList<>(Arrays.asList(WellTables.class.getDeclaredClasses()));
+        all.add(WellTables.class);
+        return all;
+    }
+
+    private static void staticFields() {
+        for (Class<?> of : classes()) {
+            for (Field field : of.getDeclaredFields()) {
+                if (Modifier.isStatic(field.getModifiers())) {
+                    Check.holds(field + " is not final", Modifier.isFinal(field.getModifiers()));
+                    Check.holds(field + " is no number", field.getType() == int.class);
+                }
+            }
+        }
+    }
+
+    private static void sizes() {
+        Check.holds("more than 12 classes", classes().size() <= 12);
+        for (Class<?> of : classes()) {
+            int fields = 0;
+            for (Field field : of.getDeclaredFields()) {
+                fields += Modifier.isStatic(field.getModifiers()) ? 0 : 1;
+            }
+            Check.holds(of + " has " + fields + " fields", fields <= 20);
+            for (Method method : of.getDeclaredMethods()) {
+                Check.holds(method + " takes too many", method.getParameterCount() <= 7);
+            }
+        }
+        methodsAreShort();
+    }
+
+    private static void methodsAreShort() {
+        Pattern methodsHead = Pattern.compile("( {4}| {8})\\w[^=;]*\\) \\{");
+        String end = "";
+        int lines = 0;
+        int methods = 0;
+        for (String line : sourceWithoutComments().split("\n")) {
+            Matcher head = methodsHead.matcher(line);
+            if (end.isEmpty() && head.matches()) {
+                end = head.group(1) + "}";
+                lines = 0;
+                methods++;
+            }
+            lines++;
+            Check.holds("a method is longer than 60 lines, at " + line, end.isEmpty() || lines <= 60);
+            end = line.equals(end) ? "" : end;
+        }
+        Check.holds("methods found: " + methods, methods > 60);
+    }
+
+    private static void noNewObjects() {
+        boolean isInConstructor = false;
+        for (String line : sourceWithoutComments().split("\n")) {
+            isInConstructor |= line.equals("    public WellTables() {");
+            boolean isField = line.matches(" +private final .* = new .*;");
+            if (line.contains("new ")) {
+                Check.holds("a call makes an object: " + line, isField || isInConstructor);
+            }
+            isInConstructor &= !line.equals("    }");
         }
     }
 

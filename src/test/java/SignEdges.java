@@ -64,6 +64,11 @@ final class SignEdges {
             Edge.refused(NEW.then("table", 1, 1), MISSING, "changes", 0);
             Edge.taken(TORN.then("tell", 15, 0), 0, "changes", 0);
         });
+        Check.test("24 changes: asked again, nothing is left of the one before", () -> {
+            Run great = NEW.table(0, Bench.row(1, 0), Bench.row(0, 1)).row(1000, -1000).then("changes", 0);
+            Edge.taken(great, 11, "changes", 0);
+            Edge.taken(great.then("tell", 1, 1), 0, "changes", 0);
+        });
         Check.test("24 changes: BEYOND is ahead of MISSING", () -> {
             Edge.refused(TORN, BEYOND, "changes", 8);
             Edge.refused(TORN, BEYOND, "changes", -1);
