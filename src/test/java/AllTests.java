@@ -7,6 +7,7 @@ public final class AllTests {
         int passedBefore = args.length > 0 ? Integer.parseInt(args[0]) : 0;
         int failedBefore = args.length > 1 ? Integer.parseInt(args[1]) : 0;
         FaceTests.all();
+        ReadmeTests.all();
         TableTests.all();
         NetTests.all();
         SignTests.all();

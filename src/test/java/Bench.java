@@ -10,6 +10,8 @@ final class Bench {
     static final int NONE = WellTables.NONE;
     static final int MIN = Integer.MIN_VALUE;
     static final int MAX = Integer.MAX_VALUE;
+    /** More TABLES than there may be: a class that never tells FULL has to fail a test, not to hang it. */
+    private static final int MANY = 20;
 
     private Bench() {
     }
@@ -60,15 +62,17 @@ final class Bench {
 
     static int tables(WellTables x) {
         int many = 0;
-        while (x.look(many, 0) != BEYOND) {
+        while (many < MANY && x.look(many, 0) != BEYOND) {
             many++;
         }
         return many;
     }
 
     static void fillTables(WellTables x) {
-        while (x.table(1, 1) != FULL) {
-            continue;
+        boolean isFull = false;
+        for (int k = 0; k < MANY && !isFull; k++) {
+            isFull = x.table(1, 1) == FULL;
         }
+        Check.holds("there is no end of TABLES", isFull);
     }
 }

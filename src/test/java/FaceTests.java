@@ -31,6 +31,7 @@ final class FaceTests {
     static void all() {
         Check.test("face: constants", FaceTests::constants);
         Check.test("face: methods", FaceTests::methods);
+        Check.test("face: as the document writes it, in its order", FaceTests::asWritten);
         Check.test("face: class, constructor, fields, classes inside", FaceTests::members);
         Check.test("language: words that are not allowed", FaceTests::words);
         Check.test("language, rules 3 and 4: the library", FaceTests::library);
@@ -64,6 +65,24 @@ final class FaceTests {
         for (Class<?> inside : WellTables.class.getDeclaredClasses()) {
             noOtherBearsAPublicName(inside, publicNames);
         }
+    }
+
+    /** Names of parameters too, which the compiled class doesn't tell. */
+    private static void asWritten() {
+        List<String> due = publicMembers(textOf("../shared/DOC.md"));
+        List<String> found = publicMembers(textOf("src/main/java/WellTables.java"));
+        Check.same("members of the document", 1 + 8 + 1 + 31, due.size());
+        Check.holds("written is " + found + ", due is " + due, found.equals(due));
+    }
+
+    private static List<String> publicMembers(String text) {
+        List<String> members = new ArrayList<>();
+        for (String line : text.split("\n")) {
+            if (line.matches("( {4})?public .*")) {
+                members.add(line.strip().replaceAll("( \\{|;)$", ""));
+            }
+        }
+        return members;
     }
 
     private static void noOtherBearsAPublicName(Class<?> of, Set<String> publicNames) {
@@ -204,9 +223,13 @@ final class FaceTests {
     }
 
     private static String sourceWithoutComments() {
+        String all = textOf("src/main/java/WellTables.java");
+        return all.replaceAll("(?s)/\\*.*?\\*/", "").replaceAll("//[^\n]*", "");
+    }
+
+    private static String textOf(String file) {
         try {
-            String all = Files.readString(Path.of("src/main/java/WellTables.java"));
-            return all.replaceAll("(?s)/\\*.*?\\*/", "").replaceAll("//[^\n]*", "");
+            return Files.readString(Path.of(file));
         } catch (IOException thrown) {
             throw new IllegalStateException(thrown);
         }

@@ -236,7 +236,7 @@ final class NetEdges {
             Edge.taken(NEW.then("net", 3), 0, "families", 0, 1, 2);
             Edge.taken(NEW.then("net", 2).then("step", 0, UP, 0, 1), 0, "families", 0, 2, 1);
         });
-        Check.test("19 families: the most", () -> {
+        Check.test("19 families: many of them, in 16 STEPS", () -> {
             Run most = NEW.then("net", 2);
             for (int k = 0; k < 8; k++) {
                 most = most.then("step", 0, UP, 0, 1).then("step", 0, DOWN, 0, 1);
@@ -251,7 +251,17 @@ final class NetEdges {
 
     private static void weight() {
         Check.test("20 weight: none lead so: 0, and no refusal", () -> Edge.taken(NEW.then("net", 3), 0, "weight", 0, 1, 2));
-        Check.test("20 weight: the least, and the greatest", () -> {
+        Check.test("20 weight: more than 9 sixteen times multiplied", () -> {
+            Run most = NEW.then("net", 2);
+            for (int k = 0; k < 8; k++) {
+                most = most.then("step", 0, UP, 0, 9).then("step", 0, DOWN, 0, 9);
+            }
+            Edge.taken(most, 2_222_891_938_868_077L, "weight", 0, 1, 1);
+            Edge.taken(most, 244_011_802_169_763L, "weight", 0, 1, 2);
+            Edge.taken(most, 1, "weight", 0, 3, 3);
+            Edge.refused(most, FULL, "made", 0);
+        });
+        Check.test("20 weight: the least, and great ones", () -> {
             Edge.taken(Scene.steps(1, 16, 1), 1, "weight", 0, 1, 1);
             Edge.taken(Scene.steps(1, 16, 9), 1853020188851841L, "weight", 0, 1, 1);
             // Each UP STEP at one place adds its weight: 16 of them.

@@ -399,7 +399,7 @@ final class TermEdges {
             Edge.taken(full, 1, "turn", 0, 1);
             Edge.taken(full.then("table", 2, 2), 0, "look", 1, 0);
         });
-        Check.test("term 5: what is refused doesn't use up calls of others: 300 refused, then one taken", () -> {
+        Check.test("term 5: what is refused doesn't use up what others may take: 120 refused, then one taken", () -> {
             Edge.taken(NEW.then("table", 1, 1).times(120, "set", 0, 0, 0, 1001), 0, "set", 0, 0, 0, 1000);
             Edge.taken(NEW.times(120, "drop"), 0, "table", 1, 1);
         });
